@@ -75,8 +75,12 @@ public final class AheadTest {
         Due.both(x, "one is enough", x.high(1, 20, 2), 1, 2);
         Due.both(x, "two are wound", x.high(1, 21, 2), 2, 6);
         Due.both(x, "of like ones the least", x.high(0, 10, 1), 0, 0);
-        x = Due.with("h30g3010s3010g3130");
-        Due.both(x, "GATE 0 or 1, the least", x.high(1, 11, 1), 1, 1);
+        x = Due.with("h30g3010g3030");
+        Due.both(x, "GATE 0 or 1, the least", x.high(1, 13, 1), 1, 1);
+        Due.both(x, "both", x.high(1, 14, 1), 2, 3);
+        // Two WEIRS: neither is in a set.
+        x = Due.with("h10w1010p9010w1010p9130");
+        Due.both(x, "past two WEIRS", x.high(1, 19, 1), 1, 2);
         // A WEIR can't be wound, though it stands in the way; fewest goes ahead of least.
         x = Due.with("h30w1010s9131p9120");
         Due.both(x, "shut the PUMP", x.high(3, 20, 1), 1, 4);
@@ -105,6 +109,8 @@ public final class AheadTest {
         Due.both(x, "open it for longer", x.even(2), 1, 0);
         x = Due.with("h20p9120");
         Due.both(x, "shut it", x.even(1), 0, 0);
+        x = Due.with("h20w9110w9110g9000");
+        Due.both(x, "two WEIRS", x.even(1), 4, 13);
         // 13 4 3, 11 5 4: the WEIR stays OPEN, rests at 6 apart, and is not told.
         x = Due.with("h20w9100g9000");
         Due.both(x, "a WEIR", x.even(20), 2, 7);

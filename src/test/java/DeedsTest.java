@@ -92,10 +92,20 @@ public final class DeedsTest {
         Due.is("draw of 0", x.draw(1, 1), Due.STATE);
         Due.is("draw(0, 10)", x.draw(0, 10), Due.BAD);
         Due.is("DEEDS stay", x.count(2), 40);
+        Due.is("undo none of 40", x.undo(40), 0);
+        levels(x, 60, 0, 30);
         Due.is("undo one", x.undo(39), 1);
+        Due.is("rain as the last one", x.rain(1, 2), 2);
+        Due.is("undo it", x.undo(39), 1);
+        Due.is("draw as the last one", x.draw(0, 2), 58);
+        Due.is("undo it", x.undo(39), 1);
+        Due.is("wind as the last one", x.wind(0), 0);
+        Due.is("undo it", x.undo(39), 1);
         Due.is("turn fits", x.turn(), 3);
         Due.is("undo all", x.undo(0), 40);
         levels(x, 60, 0, 30);
+        Due.is("lots as the last ones", x.lots(20, 1) + x.lots(20, 1) >= 0 ? 1 : 0, 1);
+        Due.is("40 by lots", x.count(2), 40);
     }
 
     private static void undo() {
@@ -109,6 +119,7 @@ public final class DeedsTest {
         x.draw(1, 1);
         x.turn();
         Due.is("none", x.undo(5), 0);
+        levels(x, 8, 10, 10);
         Due.is("undo(6)", x.undo(6), Due.BAD);
         Due.is("undo(-1)", x.undo(-1), Due.BAD);
         Due.is("two", x.undo(3), 2);
@@ -142,10 +153,31 @@ public final class DeedsTest {
         Due.is("OPEN", x.count(3), 3);
         Due.is("on(0), as it was kept", x.on(0), 2);
         levels(x, 11, 5, 4);
+        keptWithItsDeeds(x);
+        x.on(0);
         Due.is("keep(0) anew", x.keep(2), 2);
         Due.is("two are kept", x.count(10), 2);
         Due.is("on(2)", x.on(2), 2);
         levels(x, 11, 5, 4);
+    }
+
+    /** What was done since has no part in what is undone behind on(). */
+    private static void keptWithItsDeeds(SluiceLevels x) {
+        x.undo(0);
+        x.rain(0, 9);
+        x.rain(1, 9);
+        x.turn();
+        x.turn();
+        Due.is("on(2) with its DEEDS", x.on(2), 3);
+        Due.is("the rain", x.undo(2), 1);
+        Due.is("TURN 1", x.count(1), 1);
+        levels(x, 11, 5, 4);
+        Due.is("the TURN", x.undo(1), 1);
+        levels(x, 20, 0, 0);
+        Due.is("TURN 0", x.count(1), 0);
+        Due.is("OPEN", x.count(3), 3);
+        Due.is("the winding", x.undo(0), 1);
+        Due.is("OPEN", x.count(3), 2);
     }
 
     private static void keepRefused() {

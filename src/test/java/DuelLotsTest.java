@@ -131,11 +131,34 @@ public final class DuelLotsTest {
         // Seeds whose first number falls on 6 and 7: BASIN by it by 64, modulo 3.
         byFirst(6, 5);
         byFirst(7, -5);
+        for (int which = 0; which <= 5; which++) {
+            byFirstTurnOrGate(which);
+        }
         // A LOT on a WEIR, on what is 60 and on what is 0 is a DEED, too.
         x = Due.with("h60w1060");
         Due.is("20 lots", x.lots(20, 2147483646) >= 0 ? 1 : 0, 1);
         Due.is("20 DEEDS", x.count(2), 20);
         Due.is("the WEIR is OPEN", x.count(3), 1);
+    }
+
+    private static void byFirstTurnOrGate(int which) {
+        int looked = 0;
+        for (int seed = 1; seed < 200; seed++) {
+            long z = 48271L * seed % 2147483647L;
+            if (z / 8 % 8 != which) {
+                continue;
+            }
+            // Of three GATES the one in the middle is a WEIR.
+            SluiceLevels x = Due.with("h20g9100w9000g9000");
+            int i = (int) (z % 3);
+            int open = 3 ^ (which < 4 || i == 1 ? 0 : 1 << i);
+            Due.is("lot " + which + " of seed " + seed, x.lots(1, seed), which < 4 ? 11 : 20);
+            Due.is("OPEN behind it", x.count(3), open);
+            Due.is("TURNS behind it", x.count(1), which < 4 ? 1 : 0);
+            Due.is("DEEDS behind it", x.count(2), 1);
+            looked++;
+        }
+        Due.is("seeds with " + which, looked > 5 ? 1 : 0, 1);
     }
 
     private static void byFirst(int which, int more) {

@@ -149,6 +149,13 @@ public final class RowsTest {
         Due.tells(x, "mean of three BIG", x.mean(0), BIG);
         Due.fill(x, 0, SMALL, SMALL, -1);
         Due.tells(x, "mean of SMALL", x.mean(0), (2L * SMALL - 1) / 3);
+        Due.fill(x, 0, 40, 60);
+        Due.tells(x, "nothing of a longer row is left", x.mean(0), 50);
+        Due.fill(x, 0, 7);
+        Due.tells(x, "mean of one", x.mean(0), 7);
+        Due.is("row of 40", x.row(1, 40), 40);
+        x.lay(1, 39, 81);
+        Due.tells(x, "mean of 40", x.mean(1), 2);
         Due.is("mean(-1)", x.mean(-1), Due.BAD);
         Due.is("mean(6)", x.mean(6), Due.BAD);
     }

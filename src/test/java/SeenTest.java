@@ -45,7 +45,9 @@ public final class SeenTest {
             Due.is("GATES as they were, call " + call, x.count(3), 2);
         }
         SluiceLevels x = Due.with("h20g9000s9100");
+        Due.fill(x, 0, 20, 61);
         Due.fill(x, 0, 20);
+        Due.part(x, "what stood in a longer ROW has no part", x.opens(0, 0), 2, 1);
         Due.is("widths of GATE 2", x.widths(2, 0, 0), Due.BAD);
         Due.is("widths of GATE -1", x.widths(-1, 0, 0), Due.BAD);
         Due.is("kinds of GATE 2", x.kinds(2, 0, 0), Due.BAD);
@@ -104,6 +106,9 @@ public final class SeenTest {
         Due.both(x, "one set", x.sure(1, 0), 1, 2);
         Due.fill(x, 0, 60);
         Due.both(x, "no set: all but WEIRS", x.sure(0, 0), 3, 3);
+        x = Due.with("h20w9100g9100w1100");
+        Due.fill(x, 0, 60);
+        Due.both(x, "no set: all but both WEIRS", x.sure(0, 0), 2, 2);
         Due.is("sure() tells no upper()", x.upper(), 0);
     }
 
@@ -120,10 +125,26 @@ public final class SeenTest {
         x.basin(1);
         Due.is("no set", x.next(2, 1), Due.NONE);
         Due.is("asked() of what was not NONE", x.asked(), 20);
-        // BASIN 1 parts 4 sets in four, BASIN 0 and 2 in two.
+        // BASIN 1 parts the 4 sets with SLUICE 2 shut into four, so it does again.
         x = Due.with("h20g9100g4120s9101");
         Due.fill(x, 0, 1);
         Due.both(x, "parts", x.next(3, 0), 1, 1);
+        Due.both(x, "parts again", x.next(3, 0), 1, 1);
+        // Two sets, BASIN 0 at 60 with both, BASIN 1 too.
+        x = Due.with("h60p9160");
+        Due.fill(x, 0, 60);
+        Due.both(x, "60 counts as a LEVEL", x.next(0, 0), 0, 2);
+        // All 64 sets, all alike: 0 in each BASIN.
+        x = Due.with("h00g1100s1100p1100l1100e1100g1100");
+        Due.fill(x, 0, 0, 0);
+        Due.part(x, "64 sets", x.opens(6, 0), 64, 1);
+        Due.both(x, "64 alike", x.next(6, 0), 0, 64);
+        Due.both(x, "64 alike again", x.next(3, 0), 0, 64);
+        // With GATE 0 shut: BASIN 1 is 0 or 5, BASIN 2 10, 6, 5, 3 by GATES 1, 2, twice each by GATE 3.
+        x = Due.with("h20g9100g9010s4100g9100");
+        Due.fill(x, 0, 20);
+        Due.part(x, "8 sets", x.opens(0, 0), 8, 1);
+        Due.both(x, "8 sets told apart", x.next(0, 0), 2, 2);
     }
 
     private static void widths() {

@@ -6,6 +6,7 @@ public final class TextsTest {
         noFault();
         faults();
         faultRefusals();
+        nothingIsLeft();
         bridge();
         bridgeAnew();
         Due.end();
@@ -67,6 +68,8 @@ public final class TextsTest {
         faultOf("h61g5110", 1);
         faultOf("h99g5110", 1);
         faultOf("h7xg5110", 2);
+        faultOf("h4:g5110", 2);
+        faultOf("h4/g5110", 2);
         faultOf("hx7g5110", 1);
         faultOf("h40h40", 3);
         faultOf("h40G5110", 3);
@@ -103,6 +106,25 @@ public final class TextsTest {
         Due.is("a byte that is h when cut", x.fault(0), 1);
         x.put(0, 0, -104);
         Due.is("a byte below 0", x.fault(0), 0);
+    }
+
+    /** What stood in a longer TEXT, or was tried aside, has no part in a new one. */
+    private static void nothingIsLeft() {
+        SluiceLevels x = Due.with("h40g5110s5110w5010");
+        Due.is("text cut short", x.text(0, 3), 3);
+        x.put(0, 0, 'h');
+        x.put(0, 1, '4');
+        x.put(0, 2, '0');
+        Due.is("no GATES behind the end", x.fault(0), 3);
+        Due.is("no BRIDGE", x.bridge(0), Due.STATE);
+        Due.write(x, 0, "h4");
+        Due.is("no figure behind the end", x.fault(0), 2);
+        x.level(0, 5);
+        Due.write(x, 0, "h40g5010s5010");
+        Due.is("bridge(0)", x.bridge(0), 2);
+        Due.is("all are shut", x.count(3), 0);
+        Due.is("TURN 0", x.count(1), 0);
+        Due.is("two GATES", x.gate(2, 0), Due.BAD);
     }
 
     private static void bridge() {

@@ -120,6 +120,12 @@ public final class ToldTest {
         for (int what = 0; what <= 10; what++) {
             Due.is("count(" + what + ")", x.count(what), due[what]);
         }
+        x = Due.with("h40l5010w3025w2007e1002");
+        int[] first = {4, 0, 0, 6, 84, 38, 1, 1};
+        for (int what = 0; what < first.length; what++) {
+            Due.is("a LOCK first: count(" + what + ")", x.count(what), first[what]);
+        }
+        Due.is("an ENGINE first", Due.with("h40e5010").count(7), 1);
         Due.is("count(-1)", x.count(-1), Due.BAD);
         Due.is("count(11)", x.count(11), Due.BAD);
     }

@@ -1,0 +1,123 @@
+import java.lang.reflect.Constructor;
+import java.lang.reflect.Field;
+import java.lang.reflect.Method;
+import java.lang.reflect.Modifier;
+import java.nio.charset.StandardCharsets;
+import java.nio.file.Files;
+import java.nio.file.Path;
+import java.util.Arrays;
+import java.util.TreeSet;
+import java.util.regex.Pattern;
+
+/** What can be seen of LANGUAGE.md's rules in the source and in the compiled class, and the document's face. */
+public final class LanguageTest {
+    private static final String[] FACE = {
+        "int row(int,int)", "int lay(int,int,int)", "int at(int,int)", "int tear(int)", "int copy(int,int,int,int,int)",
+        "int mean(int)", "int text(int,int)", "int put(int,int,int)", "int fault(int)", "int bridge(int)", "int basin(int)",
+        "int gate(int,int)", "int mark(int,int)", "int turn()", "int wind(int)", "int rain(int,int)", "int draw(int,int)",
+        "int undo(int)", "int keep(int)", "int on(int)", "int flows(int,int,int,int)", "int level(int,int)", "int stops()",
+        "int high(int,int,int)", "int even(int)", "int opens(int,int)", "int sure(int,int)", "int next(int,int)",
+        "int widths(int,int,int)", "int kinds(int,int,int)", "int sets(int)", "int surely(int)", "int duel(int)",
+        "int odds(int,int,int)", "int mid(int,int)", "int lots(int,int)", "int asked()", "long upper()", "long lower()",
+        "int count(int)", "int finding()", "int findings(int)", "long digest()"};
+
+    public static void main(String[] args) throws Exception {
+        face();
+        constants();
+        classesInside();
+        words();
+        newOnlyAtTheStart();
+        Due.end();
+    }
+
+    private static void holds(String what, boolean so) {
+        Due.is(what, so ? 1 : 0, 1);
+    }
+
+    private static void face() {
+        TreeSet<String> open = new TreeSet<>();
+        TreeSet<String> names = new TreeSet<>();
+        for (Method method : SluiceLevels.class.getDeclaredMethods()) {
+            if (Modifier.isPublic(method.getModifiers())) {
+                String types = String.join(",", Arrays.stream(method.getParameterTypes()).map(Class::getName).toList());
+                open.add(method.getReturnType() + " " + method.getName() + "(" + types + ")");
+                names.add(method.getName());
+            }
+        }
+        holds("the face, rule 1: " + open, open.equals(new TreeSet<>(Arrays.asList(FACE))));
+        for (Method method : SluiceLevels.class.getDeclaredMethods()) {
+            int is = method.getModifiers();
+            boolean hidden = Modifier.isPrivate(is) && !names.contains(method.getName());
+            holds("rule 1: " + method, method.isSynthetic() || Modifier.isPublic(is) || hidden);
+            holds("rule 11: " + method, method.getParameterCount() <= 7);
+        }
+        Constructor<?>[] made = SluiceLevels.class.getDeclaredConstructors();
+        holds("one public constructor", made.length == 1 && Modifier.isPublic(made[0].getModifiers()) && made[0].getParameterCount() == 0);
+        holds("public and final", Modifier.isFinal(SluiceLevels.class.getModifiers()));
+    }
+
+    private static void constants() {
+        Due.is("BAD", SluiceLevels.BAD, -1);
+        Due.is("FULL", SluiceLevels.FULL, -2);
+        Due.is("FINDING", SluiceLevels.FINDING, -3);
+        Due.is("STATE", SluiceLevels.STATE, -4);
+        Due.is("SPENT", SluiceLevels.SPENT, -6);
+        Due.is("NONE", SluiceLevels.NONE, -9);
+        int open = 0;
+        for (Field field : SluiceLevels.class.getDeclaredFields()) {
+            open += Modifier.isPrivate(field.getModifiers()) ? 0 : 1;
+        }
+        Due.is("open fields, rule 1", open, 6);
+    }
+
+    private static void classesInside() {
+        Class<?>[] inside = SluiceLevels.class.getDeclaredClasses();
+        holds("rule 11: classes", inside.length <= 11);
+        looksAtFields(SluiceLevels.class);
+        for (Class<?> one : inside) {
+            int is = one.getModifiers();
+            holds("rule 2: " + one, Modifier.isStatic(is) && !Modifier.isPublic(is) && !Modifier.isProtected(is));
+            looksAtFields(one);
+        }
+    }
+
+    private static void looksAtFields(Class<?> one) {
+        int fields = 0;
+        for (Field field : one.getDeclaredFields()) {
+            boolean still = Modifier.isStatic(field.getModifiers());
+            fields += still ? 0 : 1;
+            holds("rule 5: " + field, !still || Modifier.isFinal(field.getModifiers()));
+        }
+        holds("rule 11: fields of " + one, fields <= 20);
+    }
+
+    private static String source() throws Exception {
+        return Files.readString(Path.of("src/main/java/SluiceLevels.java"), StandardCharsets.UTF_8);
+    }
+
+    private static void words() throws Exception {
+        String source = source();
+        String bare = source.replaceAll("(?s)/\\*.*?\\*/", "").replaceAll("//[^\n]*", "");
+        String[] banned = {"throw", "throws", "try", "catch", "synchronized", "assert", "package", "import", "goto", "volatile",
+            "instanceof", "double", "float", "Object", "hashCode", "equals", "toString", "Exact", "System.(?!arraycopy)\\w+", "true\\s*\\)\\s*\\{"};
+        for (String word : banned) {
+            holds("no " + word, !Pattern.compile("\\b" + word + (word.endsWith("{") ? "" : "\\b")).matcher(bare).find());
+        }
+        holds("no lambda, no method reference", !bare.contains("->") && !bare.contains("::"));
+        holds("signs of 1 to 127", source.chars().allMatch(c -> c > 0 && c < 128));
+        for (String body : bare.split("\n *\\}\n\n")) {
+            holds("rule 11: short methods: " + body, body.lines().count() <= 60);
+        }
+    }
+
+    /** Nothing is made behind the constructors, so that calls take no room. */
+    private static void newOnlyAtTheStart() throws Exception {
+        for (String line : source().split("\n")) {
+            if (line.matches(".*\\bnew\\b.*\\(.*|.*\\bnew\\b.*\\[.*")) {
+                boolean field = line.matches(" +(private )?final [A-Za-z]+(\\[\\])? \\w+ = new .*");
+                boolean inConstructor = line.matches(" +\\w+(\\[\\w\\])? = new \\w+[(\\[]\\w*[)\\]];");
+                holds("made at the start: " + line, field || inConstructor);
+            }
+        }
+    }
+}
