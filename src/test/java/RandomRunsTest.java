@@ -1,6 +1,6 @@
 import java.util.Random;
 
-/** Random runs of 512 calls (of fixed seeds) against the Model: every answer, and what is told behind each call. */
+/** Random runs of at most 512 calls (of fixed seeds) against the Model: every answer, and what is told behind each call. */
 public final class RandomRunsTest {
     private static final int RUNS = 700, CALLS = 512;
 
