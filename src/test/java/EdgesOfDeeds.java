@@ -269,15 +269,15 @@ final class EdgesOfDeeds {
     }
 
     private static void undoForty() {
-        SluiceLevels x = Due.with("h00g9000s9000p9000w9000l9000e9060");
+        SluiceLevels x = Due.with("h00g9000s9000p9000w9000l9000e9000");
         for (int n = 0; n < 40; n++) {
-            x.rain(n % 6, 1);
+            x.rain(n % 7, 1);
         }
         for (int n = 39; n >= 0; n--) {
             Due.is("DEED " + n, x.undo(n), 1);
-            Due.tells(x, "as ahead of DEED " + n, x.basin(n % 6), n / 6);
+            Due.tells(x, "as ahead of DEED " + n, x.basin(n % 7), n / 7);
         }
-        Due.tells(x, "the last BASIN", x.basin(6), 60);
+        Due.is("all LEVELS", x.count(4), 0);
     }
 
     private static void undoRefused() {
@@ -376,6 +376,30 @@ final class EdgesOfDeeds {
         Due.levels(x, "as ahead of it", 11, 5, 4);
         Due.is("gone on from: the same once more", x.on(2) + x.on(2), 6);
         Due.is("nothing by asked() but LEVELS", x.asked(), 4);
+        onWithItsTurns();
+    }
+
+    /** Each DEED's own past is kept: LEVELS, OPEN GATES, the number of the TURN. */
+    private static void onWithItsTurns() {
+        SluiceLevels x = Due.with("h20g1000g1100");
+        x.turn();
+        x.turn();
+        x.wind(0);
+        x.turn();
+        x.keep(1);
+        x.undo(0);
+        for (int n = 0; n < 4; n++) {
+            x.rain(2, 9);
+        }
+        Due.is("on(1)", x.on(1), 4);
+        int[] turns = {0, 1, 2, 2};
+        int[] open = {2, 2, 2, 3};
+        for (int n = 3; n >= 0; n--) {
+            Due.is("DEED " + n, x.undo(n), 1);
+            Due.is("TURN ahead of DEED " + n, x.count(1), turns[n]);
+            Due.is("OPEN ahead of DEED " + n, x.count(3), open[n]);
+            Due.levels(x, "ahead of DEED " + n, 20, 0, 0);
+        }
     }
 
     private static void onRefused() {

@@ -323,6 +323,8 @@ final class EdgesOfGates {
         x.turn();
         Due.levels(x, "TURN 1 is next", 4, 14, 30);
         Due.is("a LOCK that rests, up", x.mark(0, 1), 5);
+        SluiceLevels narrow = Due.with("h10s9110s2140");
+        Due.is("by its own WIDTH", narrow.mark(1, 1), 2);
     }
 
     private static void markOfAPump() {

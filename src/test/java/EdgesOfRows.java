@@ -100,8 +100,9 @@ final class EdgesOfRows {
         Due.holds(x, 0, -1, 0);
         Due.tells(x, "no other place", x.at(0, 38), 0);
         Due.tells(x, "no other ROW", x.at(5, 0), 0);
-        Due.tells(x, "the last ROW", x.lay(5, 1, 4), 0);
-        Due.tells(x, "it stands", x.at(5, 1), 4);
+        Due.tells(x, "the last ROW", x.lay(5, 39, 4), 0);
+        Due.tells(x, "it stands", x.lay(5, 39, 5), 4);
+        Due.tells(x, "no other ROW", x.at(0, 39), 8);
     }
 
     private static void layRefused() {

@@ -390,6 +390,7 @@ final class EdgesOfTexts {
         Due.refuses(x, "the GATES ahead are gone", () -> x.gate(1, 0), Due.BAD);
         x.turn();
         x.keep(1);
+        x.level(0, 7);
         Due.is("the same one anew", x.bridge(3), 1);
         Due.levels(x, "anew", 20, 30);
         Due.is("TURN 0 again", x.count(1), 0);
@@ -397,6 +398,11 @@ final class EdgesOfTexts {
         Due.is("none is kept again", x.count(10), 0);
         x.put(3, 1, 'x');
         Due.levels(x, "the TEXT is no more looked at", 20, 30);
+        Due.write(x, 3, "h20g3030s3030p3030");
+        x.bridge(0);
+        Due.is("OPEN ones ahead", x.count(3), 63);
+        Due.is("then shut ones", x.bridge(3), 3);
+        Due.is("none is OPEN", x.count(3), 0);
     }
 
     private static void bridgeRefused() {

@@ -8,6 +8,7 @@ final class EdgesSeen {
 
     static void all() {
         rowsOfLevels();
+        byThatRow();
         refusals();
         opens();
         opensByTurns();
@@ -46,6 +47,18 @@ final class EdgesSeen {
         }
     }
 
+    /** By ROW 5, though ROW 0 is there as well, and tells something else. */
+    private static void byThatRow() {
+        SluiceLevels x = Due.with("h20g9100s9100");
+        Due.fill(x, 0, 20);
+        Due.fill(x, 5, 11, 8);
+        Due.part(x, "opens", x.opens(0, 5), 1, 1);
+        Due.both(x, "sure", x.sure(0, 5), 3, 0);
+        Due.both(x, "next", x.next(0, 5), 0, 1);
+        Due.is("widths", x.widths(0, 0, 5), 1 << 9);
+        Due.is("kinds", x.kinds(0, 0, 5), 3);
+    }
+
     private static void findings(int call) {
         SluiceLevels x = Due.with("h00g9000s9160");
         Due.finds(x, CALLS[call] + " by a missing ROW", () -> ask(x, call, 0, 0, 5), Due.NOTHING);
@@ -62,6 +75,7 @@ final class EdgesSeen {
         }
         Due.fill(x, 5, 7, 0, 0, 0, 0, 0, 0, 0, 0, 61);
         Due.finds(x, CALLS[call] + " by 61 at the tenth place, though the first fits none", () -> ask(x, call, 0, 0, 5), Due.UNLIKE);
+        Due.fill(x, 5, 0, 61);
         Due.fill(x, 5, 0);
         Due.is(CALLS[call] + ": what stood behind the end is not looked at", ask(x, call, 0, 0, 5) >= 0 ? 1 : 0, 1);
     }
@@ -244,6 +258,10 @@ final class EdgesSeen {
         nextIs(last, 0, 1, 2, 20);
         // Behind two TURNS {1} and {0, 1}: 20 38 42, both.
         nextIs(last, 0, 1, 2, 20, 20);
+        lastIsBest();
+        SluiceLevels full = Due.with("h60p9160");
+        nextIs(full, 0, 0, 2, 60);
+        nextIs(full, 1, 0, 2, 60, 60, 60);
         SluiceLevels weir = Due.with("h20w9100g9100");
         // The WEIR lets 7 through; {}: 13 7 0, {1}: 13 4 3.
         nextIs(weir, 0, 1, 1, 13);
@@ -252,6 +270,14 @@ final class EdgesSeen {
         Due.refuses(x, "12 can't be", () -> x.next(0, 0), Due.NONE);
         Due.fill(weir, 0, 20);
         Due.refuses(weir, "20 can't be", () -> weir.next(0, 0), Due.NONE);
+    }
+
+    /** GATES 4 and 5 alone let anything through: 12 0 6 without both, 12 6 0 by GATE 5, 18 0 0 by both, behind 4 TURNS. */
+    private static void lastIsBest() {
+        SluiceLevels three = Due.with("h12l1112p4100p2006");
+        nextIs(three, 0, 3, 4, 12, 12, 12, 12);
+        SluiceLevels six = Due.with("h12s1012s1012s1012l1112p4100p2006");
+        nextIs(six, 0, 6, 32, 12, 12, 12, 12);
     }
 
     private static void widthsAre(SluiceLevels x, int i, int b, int want, int... stood) {

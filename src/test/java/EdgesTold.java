@@ -35,7 +35,7 @@ final class EdgesTold {
     }
 
     private static void calls() {
-        Sentences.ofTheCalls("An object is used for at most 512 calls after it has been made; what later calls answer is free.");
+        Sentences.ofWhatItIs("An object is used for at most 512 calls after it has been made; what later calls answer is free.");
         SluiceLevels x = new SluiceLevels();
         x.row(0, 1);
         for (int call = 2; call <= 511; call++) {

@@ -1,3 +1,4 @@
+import java.lang.reflect.Array;
 import java.lang.reflect.Constructor;
 import java.lang.reflect.Field;
 import java.lang.reflect.Method;
@@ -5,7 +6,12 @@ import java.lang.reflect.Modifier;
 import java.nio.charset.StandardCharsets;
 import java.nio.file.Files;
 import java.nio.file.Path;
+import java.util.ArrayDeque;
 import java.util.Arrays;
+import java.util.Collections;
+import java.util.Deque;
+import java.util.IdentityHashMap;
+import java.util.Set;
 import java.util.TreeSet;
 import java.util.regex.Pattern;
 
@@ -27,6 +33,7 @@ public final class LanguageTest {
         classesInside();
         words();
         newOnlyAtTheStart();
+        room();
         Due.end();
     }
 
@@ -119,5 +126,55 @@ public final class LanguageTest {
                 holds("made at the start: " + line, field || inConstructor);
             }
         }
+    }
+
+    /** How many objects and arrays one object is made of, and how many fields and elements these have: no more behind its calls. */
+    private static void room() throws Exception {
+        SluiceLevels x = new SluiceLevels();
+        int[] ahead = roomOf(x);
+        holds("objects and arrays of one: " + ahead[0], ahead[0] <= 100);
+        holds("fields and elements of one: " + ahead[1], ahead[1] <= 4000);
+        Due.write(x, 0, "h40g5110s3125p2107w4030l6119e1102");
+        x.bridge(0);
+        Due.fill(x, 0, 35);
+        x.lots(20, 1);
+        x.keep(2);
+        x.undo(0);
+        x.opens(0, 0);
+        x.next(0, 0);
+        x.duel(2);
+        x.mid(6, 5);
+        x.on(2);
+        int[] behind = roomOf(x);
+        Due.is("objects and arrays behind its calls", behind[0], ahead[0]);
+        Due.is("fields and elements behind its calls", behind[1], ahead[1]);
+    }
+
+    private static int[] roomOf(Object first) throws Exception {
+        Set<Object> seen = Collections.newSetFromMap(new IdentityHashMap<>());
+        Deque<Object> left = new ArrayDeque<>();
+        left.add(first);
+        int parts = 0;
+        while (!left.isEmpty()) {
+            Object one = left.remove();
+            if (!seen.add(one)) {
+                continue;
+            }
+            int length = one.getClass().isArray() ? Array.getLength(one) : 0;
+            parts += length;
+            for (int i = 0; i < length && one instanceof Object[]; i++) {
+                left.add(Array.get(one, i));
+            }
+            for (Field field : one.getClass().getDeclaredFields()) {
+                if (!Modifier.isStatic(field.getModifiers())) {
+                    parts++;
+                    field.setAccessible(true);
+                    if (!field.getType().isPrimitive() && field.get(one) != null) {
+                        left.add(field.get(one));
+                    }
+                }
+            }
+        }
+        return new int[] {seen.size(), parts};
     }
 }

@@ -235,7 +235,7 @@ public final class RandomRunsTest {
         same("row", x.row(r, n), m.row(r, n));
         for (int t = 0; t < Math.min(10, n); t++) {
             int v = m.level(b, t + 1);
-            x.level(b, t + 1);
+            same("level", x.level(b, t + 1), v);
             same("lay", x.lay(r, t, v), m.lay(r, t, v));
         }
         if (random.nextInt(4) > 0) {

@@ -12,7 +12,7 @@ import java.util.TreeSet;
 /** The document's sentences, each ahead of its test; in the end each must stand in the document, and none be left over. */
 final class Sentences {
     static final int TERMS = 0;
-    private static final int CALLS = 45;
+    private static final int WHAT_IT_IS = -1;
     private static final Path DOCUMENT = Path.of("../shared/DOC.md");
 
     private static final Map<Integer, Set<String>> tested = new TreeMap<>();
@@ -23,11 +23,11 @@ final class Sentences {
     /** What follows, up to the next sentence, is the test of this one. */
     static void of(int promise, String words) {
         tested.computeIfAbsent(promise, p -> new TreeSet<>()).add(words);
-        Due.begin((promise == TERMS ? "Terms" : promise == CALLS ? "What it is" : "Promise " + promise) + ", \"" + words + "\"");
+        Due.begin((promise == TERMS ? "Terms" : promise == WHAT_IT_IS ? "What it is" : "Promise " + promise) + ", \"" + words + "\"");
     }
 
-    static void ofTheCalls(String words) {
-        of(CALLS, words);
+    static void ofWhatItIs(String words) {
+        of(WHAT_IT_IS, words);
     }
 
     /** Without the document (it stands beside the project, not in it) nothing is compared. */
@@ -47,7 +47,7 @@ final class Sentences {
             } else if (title.startsWith("Promise ")) {
                 compare(Integer.parseInt(title.replaceAll("Promise ([0-9]+):.*", "$1")), body.replaceFirst("`[^`]*`:", ""));
             } else if (title.startsWith("What it is")) {
-                compare(CALLS, body.substring(body.indexOf("An object is used")));
+                compare(WHAT_IT_IS, body.substring(body.indexOf("An object is used")));
             }
         }
         Due.is("sections without their like in the document", tested.size(), 0);
