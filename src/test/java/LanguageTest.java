@@ -11,8 +11,11 @@ import java.util.Arrays;
 import java.util.Collections;
 import java.util.Deque;
 import java.util.IdentityHashMap;
+import java.util.Map;
 import java.util.Set;
+import java.util.TreeMap;
 import java.util.TreeSet;
+import java.util.regex.Matcher;
 import java.util.regex.Pattern;
 
 /** What can be seen of LANGUAGE.md's rules in the source and in the compiled class, and the document's face. */
@@ -33,6 +36,7 @@ public final class LanguageTest {
         classesInside();
         words();
         newOnlyAtTheStart();
+        depth();
         room();
         Due.end();
     }
@@ -126,6 +130,52 @@ public final class LanguageTest {
                 holds("made at the start: " + line, field || inConstructor);
             }
         }
+    }
+
+    /**
+     * Rules 8, 11: by the names of methods how deep calls go, the library's own counted too; none comes back to itself.
+     * takeFrom() alone hands on to another class's method of its name.
+     */
+    private static void depth() throws Exception {
+        Map<String, Set<String>> calls = callsByName(source());
+        for (String name : calls.keySet()) {
+            int deep = depthOf(name, calls, new ArrayDeque<>());
+            holds("rule 11: " + name + "() goes " + deep + " deep", deep <= 8);
+        }
+        holds("rule 11: methods seen: " + calls.size(), calls.size() >= FACE.length + 30);
+        holds("rule 11: calls within calls are seen", depthOf("even", calls, new ArrayDeque<>()) >= 5);
+    }
+
+    private static Map<String, Set<String>> callsByName(String source) {
+        Map<String, Set<String>> calls = new TreeMap<>();
+        Matcher method = Pattern.compile("(?m)^( {4}| {8})(?:(?:public|private|static) )*[\\w\\[\\]]+ (\\w+)\\([^()]*\\) \\{\n((?s).*?)\n\\1\\}$").matcher(source);
+        while (method.find()) {
+            String name = method.group(2);
+            Set<String> those = calls.computeIfAbsent(name, n -> new TreeSet<>());
+            Matcher call = Pattern.compile("\\b(\\w+)\\(").matcher(method.group(3));
+            while (call.find()) {
+                those.add(call.group(1));
+            }
+            those.removeAll(Set.of("if", "for", "while", "switch", "return"));
+            if (name.equals("takeFrom")) {
+                those.remove(name);
+            }
+        }
+        return calls;
+    }
+
+    private static int depthOf(String name, Map<String, Set<String>> calls, Deque<String> above) {
+        if (above.contains(name)) {
+            holds("rule 8: " + name + "() comes back to itself: " + above, false);
+            return 1000;
+        }
+        above.push(name);
+        int deepest = 0;
+        for (String one : calls.getOrDefault(name, Set.of())) {
+            deepest = Math.max(deepest, depthOf(one, calls, above));
+        }
+        above.pop();
+        return deepest + 1;
     }
 
     /** How many objects and arrays one object is made of, and how many fields and elements these have: no more behind its calls. */
